@@ -103,6 +103,7 @@ public final class LongYears {
     private boolean imageKept;
     private final Moment moment = new Moment();
     private final Moment otherMoment = new Moment();
+    private final Wish wish = new Wish();
 
     public LongYears() {
     }
@@ -220,13 +221,16 @@ public final class LongYears {
         if (!book.has(FEASTS, feast) || !isCount(count)) {
             return NONE;
         }
-        return firstFeast(feast, count);
+        wish.clear();
+        wish.feast = feast;
+        return firstMet(count);
     }
 
-    private long firstFeast(int feast, long from) {
+    /** The first count from one on, of those gone through, on which the wish is met. */
+    private long firstMet(long from) {
         moment.seek(book.landAt(0), from);
         for (int i = 0; i < GONE_THROUGH && moment.count <= LAST_COUNT; i++) {
-            if (book.rules.isFeast(feast, moment, book.sky)) {
+            if (wish.isMet(moment, book)) {
                 return moment.count;
             }
             moment.step();
@@ -315,16 +319,11 @@ public final class LongYears {
         if (!isCount(count) || !dayAsked || !weekAsked || !moonAsked) {
             return NONE;
         }
-        moment.seek(book.landAt(0), count);
-        for (int i = 0; i < GONE_THROUGH && moment.count <= LAST_COUNT; i++) {
-            if ((day == NONE || moment.day == day)
-                    && (week == NONE || book.sky.weekDayOf(moment.count) == week)
-                    && (moon == NONE || book.sky.moonOf(moment.count) == moon)) {
-                return moment.count;
-            }
-            moment.step();
-        }
-        return SPENT;
+        wish.clear();
+        wish.day = day;
+        wish.week = week;
+        wish.moon = moon;
+        return firstMet(count);
     }
 
     public long alike(int one, int other, long count, boolean year) {
@@ -370,7 +369,10 @@ public final class LongYears {
         switch (book.deedKind[deed]) {
             case TERM_YEARS: return by.yearsLater(at, term);
             case TERM_DAYS: return at + term > LAST_COUNT ? NONE : at + term;
-            default: return firstFeast(term, at + 1);
+            default:
+                wish.clear();
+                wish.feast = term;
+                return firstMet(at + 1);
         }
     }
 
@@ -972,6 +974,35 @@ public final class LongYears {
         }
     }
 
+    /** What a count is asked to be; NONE for what is not asked. */
+    private static final class Wish {
+        int day;
+        int week;
+        int moon;
+        int season;
+        int feast;
+
+        void clear() {
+            day = NONE;
+            week = NONE;
+            moon = NONE;
+            season = NONE;
+            feast = NONE;
+        }
+
+        boolean isEmpty() {
+            return day == NONE && week == NONE && moon == NONE && season == NONE && feast == NONE;
+        }
+
+        boolean isMet(Moment at, Book book) {
+            return (day == NONE || at.day == day)
+                    && (week == NONE || book.sky.weekDayOf(at.count) == week)
+                    && (moon == NONE || book.sky.moonOf(at.count) == moon)
+                    && (season == NONE || book.sky.seasonOf(at.count) == season)
+                    && (feast == NONE || book.rules.isFeast(feast, at, book.sky));
+        }
+    }
+
     /** The notes: what each says, by word, with one number or two. */
     private static final class Notes {
         int size;
@@ -1014,9 +1045,9 @@ public final class LongYears {
             return slot == NONE ? 0 : seconds[slot];
         }
 
-        /** The note that one is after; NONE if it is after none. */
-        int targetOf(int note) {
-            return does(note, SAYS_AFTER) ? firstOf(note, SAYS_AFTER) : NONE;
+        /** The number that a note says with a word; NONE if it does not say it. */
+        int askedOf(int note, int word) {
+            return does(note, word) ? firstOf(note, word) : NONE;
         }
 
         private static int slotOf(int note, int word) {
@@ -1163,6 +1194,7 @@ public final class LongYears {
         private final int[] shifts = new int[NOTES_MOST];
         private final int[] tops = new int[NOTES_MOST];
         private final Moment moment = new Moment();
+        private final Wish wish = new Wish();
 
         void staleFrom(int note) {
             fresh = Math.min(fresh, note);
@@ -1183,31 +1215,39 @@ public final class LongYears {
             if (start < 0 || start > end) {
                 return;
             }
+            readWish(book.notes, note);
+            if (wish.isEmpty()) {
+                fillAll(row, (int) start, (int) end);
+                return;
+            }
             moment.seek(book.landAt(0), start);
             for (int count = (int) start; count <= end && count < GONE_THROUGH; count++) {
-                if (admits(note, book)) {
+                if (wish.isMet(moment, book)) {
                     row[count >> 6] |= 1L << (count & 63);
                 }
                 moment.step();
             }
         }
 
-        private boolean admits(int note, Book book) {
-            Notes notes = book.notes;
-            if (notes.does(note, SAYS_DAY) && moment.day != notes.firstOf(note, SAYS_DAY)) {
-                return false;
+        private void readWish(Notes notes, int note) {
+            wish.day = notes.askedOf(note, SAYS_DAY);
+            wish.week = notes.askedOf(note, SAYS_WEEK);
+            wish.moon = notes.askedOf(note, SAYS_MOON);
+            wish.season = notes.askedOf(note, SAYS_SEASON);
+            wish.feast = notes.askedOf(note, SAYS_FEAST);
+        }
+
+        private static void fillAll(long[] row, int start, int end) {
+            int first = start >> 6;
+            int last = end >> 6;
+            if (first < 0 || last >= row.length) {
+                return;
             }
-            if (notes.does(note, SAYS_WEEK) && book.sky.weekDayOf(moment.count) != notes.firstOf(note, SAYS_WEEK)) {
-                return false;
+            for (int word = first; word <= last; word++) {
+                row[word] = -1L;
             }
-            if (notes.does(note, SAYS_MOON) && book.sky.moonOf(moment.count) != notes.firstOf(note, SAYS_MOON)) {
-                return false;
-            }
-            if (notes.does(note, SAYS_SEASON) && book.sky.seasonOf(moment.count) != notes.firstOf(note, SAYS_SEASON)) {
-                return false;
-            }
-            return !notes.does(note, SAYS_FEAST)
-                    || book.rules.isFeast(notes.firstOf(note, SAYS_FEAST), moment, book.sky);
+            row[first] &= -1L << (start & 63);
+            row[last] &= -1L >>> (63 - (end & 63));
         }
 
         boolean isOn(int note, int count) {
@@ -1238,7 +1278,7 @@ public final class LongYears {
                 if ((mask >> note & 1) == 0) {
                     continue;
                 }
-                int target = notes.targetOf(note);
+                int target = notes.askedOf(note, SAYS_AFTER);
                 if (target >= 0 && target < note && (mask >> target & 1) == 1) {
                     tops[note] = tops[target];
                     shifts[note] = shifts[target] + notes.secondOf(note, SAYS_AFTER);

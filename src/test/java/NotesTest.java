@@ -27,6 +27,13 @@ public final class NotesTest {
         Check.due("undone", x.undo(), 9);
         Check.due("once more", x.note(), 11);
         Check.due("it says nothing", x.alone(11, 0), 20000);
+        x = Check.told("land l 10 0;note a day 1;note b day 2;");
+        Check.tell(x, "");
+        Check.tell(x, "note c;");
+        Check.due("a note of a later text says nothing", x.alone(0, 0), 20000);
+        Check.tell(x, "");
+        Check.due("nor does one by call", x.note(), 0);
+        Check.due("nor does one by call", x.alone(0, 0), 20000);
     }
 
     private static void saying() {
@@ -82,6 +89,8 @@ public final class NotesTest {
         Check.due("too many days after", x.says(7, 0, 10000), false);
         Check.due("too many days after", x.says(7, 0, -10000), false);
         Check.due("after itself", x.says(7, 1, 1), false);
+        Check.due("most days after", x.says(7, 0, -9999), true);
+        Check.due("undone", x.undo(), 2);
         Check.due("most days after", x.says(7, 0, 9999), true);
         Check.due("twice", x.says(7, 0, 1), false);
         int[][] right = {{0, 9999, 9999}, {1, 99999, -5}, {2, 0, 0}, {3, 0, 0}, {4, 0, 0}, {5, 0, 7}, {6, 0, 7}};

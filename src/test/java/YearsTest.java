@@ -207,6 +207,7 @@ public final class YearsTest {
         Check.due("an early birth", x.life(1, 0), 0);
         Check.due("no death", x.life(1, 1), -1);
         Check.due("no such what", x.life(1, 2), -1);
+        Check.due("no such what", x.life(0, 2), -1);
         Check.due("no such what", x.life(1, -1), -1);
         Check.due("no such person", x.life(3, 0), -1);
         Check.due("no such person", x.life(-1, 0), -1);
