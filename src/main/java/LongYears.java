@@ -606,7 +606,7 @@ public final class LongYears {
 
     /** A land: its first year's length, by how much each next one is longer, the count at which it begins. */
     private static final class Land {
-        // with a growth of 1 at least, year 1500000 begins far behind the last count, and all products up to it are small
+        // with a growth of 1 at least, this year begins behind the last count, and the products up to it are small
         private static final long YEARS_THAT_MATTER = 1500000L;
         private static final long FAR = 4 * LAST_COUNT;
         private static final int HALVINGS = 64;
@@ -1271,7 +1271,7 @@ public final class LongYears {
             return tell(treeOf(tops[note], notes.size), shifts[note], what);
         }
 
-        /** Each note's place behind the top of its tree; an after that leads out of the set binds nothing. How many trees. */
+        /** Puts each note of a set behind the top of its tree: how many trees. An after out of the set binds nothing. */
         private int layOut(Notes notes, int mask) {
             int trees = 0;
             for (int note = 0; note < notes.size && note < NOTES_MOST; note++) {

@@ -144,6 +144,12 @@ public final class NotesTest {
         Check.due("no such what", x.alone(0, -1), -1);
         Check.due("no such note", x.alone(6, 0), -1);
         Check.due("no such note", x.alone(-1, 0), -1);
+        x = Check.told("land l 1 0;note a year 5 5;note b year 6 7;");
+        Check.due("one day", x.alone(0, 0), 1);
+        Check.due("one day", x.alone(0, 1), 4);
+        Check.due("two days", x.alone(1, 2), 6);
+        Check.tell(x, "land l 1 0;note a year 8 9;");
+        Check.due("another text", x.alone(0, 1), 7);
         x = Check.told("note a year 1 9999;note b day 1;");
         Check.due("no land, no year", x.alone(0, 0), 0);
         Check.due("no land, no day", x.alone(1, 0), 0);
@@ -160,6 +166,8 @@ public final class NotesTest {
         Check.due("first", x.fits(0, 1), 0);
         Check.due("last", x.fits(0, 2), 0);
         Check.due("b", x.fits(1, 1), 3);
+        Check.due("no such what", x.fits(0, 3), -1);
+        Check.due("no such what", x.fits(0, -1), -1);
         Check.due("c is free", x.fits(2, 0), 2000);
         Check.due("c last", x.fits(2, 2), 19991);
         x.note();
@@ -329,6 +337,13 @@ public final class NotesTest {
         Check.due("the image stays", x.back(), 3);
         Check.due("a text", Check.tell(x, ""), 0);
         Check.due("no image", x.back(), -1);
+        x = new LongYears();
+        x.note();
+        x.keep();
+        x.says(2, 3, 0);
+        Check.due("every seventh", x.alone(0, 1), 3);
+        x.back();
+        Check.due("all again", x.alone(0, 1), 0);
         x = new LongYears();
         Check.due("an image of nothing", x.keep(), 0);
         x.note();

@@ -177,6 +177,9 @@ public final class YearsTest {
         rule("0 * (1000 * 1000 * 1000 * 1000)", 0);
         rule("9999", 9999);
         rule("day + year + length", 0);
+        rule("not ".repeat(63) + "1", 0);
+        rule("not ".repeat(62) + "1", 1);
+        rule("1-(1-(1-(1-(1-(1-(1-(1-(1-3))))))))", -2);
         LongYears x = Check.told("week 5 1;land a 3 1 from 2;feast f year * 9000 + day * 100 + length;feast w week * 100 + moon * 10 + season;");
         Check.due("no date yet", x.rule(0, 1), 0);
         Check.due("the first day", x.rule(0, 2), 9103);
@@ -249,6 +252,7 @@ public final class YearsTest {
         Check.due("the last year alone", x.often(0, 1, 1000000000, 3 + 2L * 999999999), 1);
         Check.due("no year", x.often(0, 1, 1000000000, 4 + 2L * 999999999), 0);
         Check.due("no year", x.often(0, 1, 1000000000, Long.MAX_VALUE), 0);
+        Check.due("the last day of the first year", x.often(0, 1, 10, 3), 10);
         Check.due("one year asked", x.often(0, 2, 2, 5), 1);
         Check.due("one year asked", x.often(0, 2, 2, 6), 0);
         Check.due("three years", x.often(1, 1, 1000000000, 1), 3);
@@ -292,6 +296,11 @@ public final class YearsTest {
         Check.due("n 99 is one", x.many(0, 1, 99), -2);
         Check.due("no such land", x.many(4, 1, 1), -1);
         Check.due("no such land", x.springs(-1, 1), -1);
+        x = Check.told("land a 1000 0 from 1000;land b 1000 0 from 1001;sun 1000 1;");
+        Check.due("begins on the last count", x.springs(0, 1000000000), 1);
+        Check.due("begins on the last count", x.many(0, 1000000000, 1), 1000000000);
+        Check.due("begins behind it", x.springs(1, 1000000000), -1);
+        Check.due("begins behind it", x.many(1, 1000000000, 1), -2);
         x = Check.told("land a 8 1;sun 8 1;");
         Check.due("year 993 has 1000 days", x.springs(0, 993), 125);
         Check.due("two springs first in year 2: 8, 16", x.many(0, 1, 2), 2);
