@@ -5,6 +5,8 @@ import java.util.Arrays;
 final class Check {
     private static int asked;
     private static int wrong;
+    private static String sentence = "";
+    private static int askedAhead = -1;
 
     private Check() {
     }
@@ -13,7 +15,21 @@ final class Check {
         asked++;
         if (got != want) {
             wrong++;
-            System.out.println(what + " answered " + got + ", due is " + want);
+            System.out.println(sentence + what + " answered " + got + ", due is " + want);
+        }
+    }
+
+    /** The answers from here on are about this sentence of the document; the one ahead must have had some. */
+    static void sentence(String words) {
+        endSentence();
+        sentence = "[" + words + "] ";
+        askedAhead = asked;
+    }
+
+    private static void endSentence() {
+        if (asked == askedAhead) {
+            wrong++;
+            System.out.println(sentence + "nothing was asked");
         }
     }
 
@@ -22,6 +38,7 @@ final class Check {
     }
 
     static void end() {
+        endSentence();
         System.out.println(asked + " answers, " + wrong + " of them not as due");
         if (wrong != 0 || asked == 0) {
             System.exit(1);
