@@ -667,6 +667,12 @@ public final class EdgesOfYearsTest {
         Check.due("up to YEAR 1000000000", x.many(2, LAST_YEAR, 1), SPENT);
         Check.due("up to YEAR 1000000000", x.many(0, LAST_YEAR, 2), SPENT);
         Check.due("NONE: one beyond", x.many(0, LAST_YEAR + 1, 0), NONE);
+        Check.sentence("All YEARS gone through are 1 .. 1000000000 (one beyond: no such YEAR): many");
+        x = Check.told("sun 9 1;land a 8 0 from 1;");
+        Check.due("YEAR 1000000000 has none, the next one would have one", x.many(0, LAST_YEAR, 1), SPENT);
+        Check.due("YEAR 1000000000", x.many(0, LAST_YEAR, 0), LAST_YEAR);
+        Check.due("up to YEAR 1000000000", x.many(0, LAST_YEAR - 8, 0), LAST_YEAR);
+        Check.due("the nine YEARS ahead of it", x.many(0, LAST_YEAR - 9, 0), LAST_YEAR - 9);
         Check.sentence("promise 19: (.. and begin by 10 to the 12)");
         x = Check.told("sun 1000 1;land a 1000 0 from 1000;land b 1000 0 from 1001;land c 1 1;");
         Check.due("the YEAR that begins on it", x.many(0, LAST_YEAR, 1), LAST_YEAR);
@@ -970,6 +976,13 @@ public final class EdgesOfYearsTest {
             Check.due("YEARS up to the last, by " + n, x.months(3, LAST_YEAR - 59, n), due);
         }
         Check.due("no 10 to the 12 here", x.months(3, LAST_YEAR, 99), LAST_YEAR);
+        Check.sentence("All YEARS gone through are 1 .. 1000000000 (one beyond: no such YEAR): months");
+        x = Check.told("land a 1 1;");
+        Check.due("1000000001 days go into 7 months, but there is no such YEAR", x.months(0, LAST_YEAR, 7), SPENT);
+        Check.due("1000000000 days go into 10", x.months(0, LAST_YEAR, 10), LAST_YEAR);
+        Check.due("up to YEAR 1000000000", x.months(0, LAST_YEAR - 9, 10), LAST_YEAR);
+        Check.due("the last by 7", x.months(0, LAST_YEAR - 6, 7), LAST_YEAR - 6);
+        Check.due("none by 7 any more", x.months(0, LAST_YEAR - 5, 7), SPENT);
         thousandYears();
     }
 
