@@ -966,8 +966,10 @@ public final class LongYears {
         }
 
         private static long product(long left, long right) {
+            long one = left < 0 ? -left : left;
+            long other = right < 0 ? -right : right;
             // looked at ahead of it: a product may wrap round to a small number
-            if (left != 0 && Math.abs(right) > LAST_COUNT / Math.abs(left)) {
+            if (one != 0 && other > LAST_COUNT / one) {
                 return ERROR;
             }
             return left * right;
@@ -1473,7 +1475,9 @@ public final class LongYears {
             number = 0;
             for (; at < end && bytes[at] >= '0' && bytes[at] <= '9'; at++) {
                 // beyond all limits a number's further digits do not matter
-                number = Math.min(NUMBER_FAR, number * 10 + bytes[at] - '0');
+                if (number < NUMBER_FAR) {
+                    number = number * 10 + bytes[at] - '0';
+                }
             }
             token = T_NUMBER;
         }
@@ -1613,13 +1617,6 @@ public final class LongYears {
             return by;
         }
 
-        private void readFeast() {
-            int number = beginNamed(FEASTS);
-            readRule();
-            book.rules.endRule(number);
-            book.told[FEASTS]++;
-        }
-
         private void readPerson() {
             int number = beginNamed(PEOPLE);
             book.born[number] = readDate(0);
@@ -1708,9 +1705,10 @@ public final class LongYears {
             }
         }
 
-        // ---- a rule: what is on the right of a sign is read before the sign is put behind it
+        // ---- a feast's rule: what is on the right of a sign is read before the sign is put behind it
 
-        private void readRule() {
+        private void readFeast() {
+            int number = beginNamed(FEASTS);
             heldSize = 0;
             open = 0;
             boolean partDue = true;
@@ -1728,6 +1726,8 @@ public final class LongYears {
             }
             refuse(partDue || open > 0, FAULT_TOKEN, lexer.place);
             release(1);
+            book.rules.endRule(number);
+            book.told[FEASTS]++;
         }
 
         /** Reads what can stand where a part is due; whether one is due still. */

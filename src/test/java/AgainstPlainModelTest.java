@@ -83,72 +83,34 @@ public final class AgainstPlainModelTest {
     private static void springs(int land) {
         for (int i = 0; i < 4; i++) {
             int year = chance(1, 60);
-            long springs = springsOf(land, year);
+            long springs = model.springs(land, year);
             if (springs != -3) {
                 Check.due("springs(" + land + ", " + year + ")" + of, x.springs(land, year), springs);
             }
             int n = chance(0, 3);
-            long due = model.length(land, year) < 0 ? -1 : -2;
-            for (int then = year; due == -2 && then < year + 1000; then++) {
-                long some = springsOf(land, then);
-                due = some == n ? then : some == -3 ? -3 : due;
-            }
+            long due = model.many(land, year, n);
             if (due != -3) {
                 Check.due("many(" + land + ", " + year + ", " + n + ")" + of, x.many(land, year, n), due);
             }
         }
     }
 
-    /** -3 beyond the model's table. */
-    private static long springsOf(int land, int year) {
-        if (model.length(land, year) < 0) {
-            return -1;
-        }
-        int[] told = model.lands.get(land);
-        long begin = told[2];
-        for (int then = 1; then < year && begin < PlainModel.FAR; then++) {
-            begin += model.length(land, then);
-        }
-        long end = begin + model.length(land, year) - 1;
-        if (end >= PlainModel.FAR) {
-            return -3;
-        }
-        int springs = 0;
-        for (long count = begin; count <= end; count++) {
-            springs += model.isSpring(count) ? 1 : 0;
-        }
-        return springs;
-    }
-
     private static void lengths(int land) {
         for (int i = 0; i < 5; i++) {
             int year = RANDOM.nextBoolean() ? chance(1, 100) : chance(1, 1000000000);
-            long length = model.length(land, year);
-            Check.due("length(" + land + ", " + year + ")" + of, x.length(land, year), length);
+            Check.due("length(" + land + ", " + year + ")" + of, x.length(land, year), model.length(land, year));
+            for (int what = 0; what <= 1; what++) {
+                Check.due("parts(" + land + ", " + year + ", " + what + ")" + of,
+                        x.parts(land, year, what), model.parts(land, year, what));
+            }
             int n = chance(1, 99);
-            int numbers = 0;
-            int greatest = 0;
-            for (int by = 1; by <= 99; by++) {
-                numbers += length % by == 0 ? 1 : 0;
-                greatest = length % by == 0 ? by : greatest;
-            }
-            Check.due("parts 0 of " + year + of, x.parts(land, year, 0), length < 0 ? -1 : numbers);
-            Check.due("parts 1 of " + year + of, x.parts(land, year, 1), length < 0 ? -1 : greatest);
-            long due = length < 0 ? -1 : -2;
-            for (int then = year; due == -2 && then < year + 1000; then++) {
-                long some = model.length(land, then);
-                due = some > 0 && some % n == 0 ? then : due;
-            }
-            Check.due("months(" + land + ", " + year + ", " + n + ")" + of, x.months(land, year, n), due);
+            Check.due("months(" + land + ", " + year + ", " + n + ")" + of,
+                    x.months(land, year, n), model.months(land, year, n));
             int a = chance(1, 80);
             int b = a + chance(0, 200);
             int number = chance(1, RANDOM.nextBoolean() ? 9 : 500);
-            int often = 0;
-            for (int then = a; then <= b; then++) {
-                often += model.length(land, then) >= number ? 1 : 0;
-            }
             Check.due("often(" + land + ", " + a + ", " + b + ", " + number + ")" + of,
-                    x.often(land, a, b, number), often);
+                    x.often(land, a, b, number), model.often(land, a, b, number));
         }
     }
 
@@ -229,26 +191,13 @@ public final class AgainstPlainModelTest {
             int day = RANDOM.nextBoolean() ? -1 : chance(1, 200);
             int week = RANDOM.nextBoolean() ? -1 : chance(0, model.week[0] - 1);
             int moon = RANDOM.nextBoolean() ? -1 : chance(0, 7);
-            long due = -2;
-            for (int then = count; due == -2 && then < count + 20000; then++) {
-                boolean so = (day < 0 || !model.lands.isEmpty() && model.days[0][then] == day)
-                        && (week < 0 || model.weekDay(then) == week) && (moon < 0 || model.moonOf(then) == moon);
-                due = so ? then : due;
-            }
             Check.due("next(" + count + ", " + day + ", " + week + ", " + moon + ")" + of,
-                    x.next(count, day, week, moon), due);
+                    x.next(count, day, week, moon), model.next(count, day, week, moon));
             int one = chance(0, 3);
             int other = chance(0, 3);
             boolean year = RANDOM.nextBoolean();
-            boolean there = one != other && one < model.lands.size() && other < model.lands.size();
-            due = there ? -2 : -1;
-            for (int then = count; due == -2 && then < count + 20000; then++) {
-                boolean so = model.days[one][then] > 0 && model.days[one][then] == model.days[other][then]
-                        && (!year || model.years[one][then] == model.years[other][then]);
-                due = so ? then : due;
-            }
             Check.due("alike(" + one + ", " + other + ", " + count + ", " + year + ")" + of,
-                    x.alike(one, other, count, year), due);
+                    x.alike(one, other, count, year), model.alike(one, other, count, year));
         }
     }
 

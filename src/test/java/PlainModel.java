@@ -49,14 +49,28 @@ final class PlainModel {
         boolean[] on;
     }
 
+    /** A text without lines. */
+    static PlainModel empty(Random random) {
+        return new PlainModel(random, true);
+    }
+
+    /** A text of chance. */
     PlainModel(Random random) {
-        this.random = random;
+        this(random, false);
         tellLands();
         tellSky();
         tellFeasts();
         tellPeople();
         tellDeeds();
         tellNotes();
+    }
+
+    private PlainModel(Random random, boolean withoutLines) {
+        this.random = random;
+        if (withoutLines) {
+            years = new int[0][];
+            days = new int[0][];
+        }
     }
 
     private int upTo(int least, int most) {
@@ -434,6 +448,99 @@ final class PlainModel {
             }
         }
         return best;
+    }
+
+    /** -3 beyond the model's table. */
+    long springs(int land, int year) {
+        if (length(land, year) < 0) {
+            return -1;
+        }
+        long begin = lands.get(land)[2];
+        for (int then = 1; then < year && begin < FAR; then++) {
+            begin += length(land, then);
+        }
+        long end = begin + length(land, year) - 1;
+        if (end >= FAR) {
+            return -3;
+        }
+        int springs = 0;
+        for (long count = begin; count <= end; count++) {
+            springs += isSpring(count) ? 1 : 0;
+        }
+        return springs;
+    }
+
+    /** -3 beyond the model's table. */
+    long many(int land, int year, int n) {
+        if (length(land, year) < 0) {
+            return -1;
+        }
+        for (int then = year; then < year + 1000; then++) {
+            long some = springs(land, then);
+            if (some == n || some == -3) {
+                return some == n ? then : -3;
+            }
+        }
+        return -2;
+    }
+
+    // ---- lengths
+
+    int often(int land, int a, int b, long number) {
+        int often = 0;
+        for (int then = a; then <= b; then++) {
+            often += length(land, then) >= number ? 1 : 0;
+        }
+        return often;
+    }
+
+    int parts(int land, int year, int what) {
+        long length = length(land, year);
+        int numbers = 0;
+        int greatest = 0;
+        for (int by = 1; by <= 99; by++) {
+            numbers += length % by == 0 ? 1 : 0;
+            greatest = length % by == 0 ? by : greatest;
+        }
+        return length < 0 ? -1 : what == 0 ? numbers : greatest;
+    }
+
+    long months(int land, int year, int n) {
+        if (length(land, year) < 0) {
+            return -1;
+        }
+        for (int then = year; then < year + 1000; then++) {
+            long some = length(land, then);
+            if (some > 0 && some % n == 0) {
+                return then;
+            }
+        }
+        return -2;
+    }
+
+    // ---- days that are several things at once
+
+    long next(int count, int day, int week, int moon) {
+        for (int then = count; then < count + DAYS; then++) {
+            if ((day < 0 || !lands.isEmpty() && days[0][then] == day)
+                    && (week < 0 || weekDay(then) == week) && (moon < 0 || moonOf(then) == moon)) {
+                return then;
+            }
+        }
+        return -2;
+    }
+
+    long alike(int one, int other, int count, boolean year) {
+        if (one == other || one >= lands.size() || other >= lands.size()) {
+            return -1;
+        }
+        for (int then = count; then < count + DAYS; then++) {
+            if (days[one][then] > 0 && days[one][then] == days[other][then]
+                    && (!year || years[one][then] == years[other][then])) {
+                return then;
+            }
+        }
+        return -2;
     }
 
     // ---- notes
